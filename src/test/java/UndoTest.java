@@ -1,0 +1,191 @@
+/** Promises 57 to 60: undo and slots. */
+public final class UndoTest {
+    public static void main(String[] args) {
+        promise57();
+        promise58EveryChange();
+        promise58Limit();
+        promise58WhatStays();
+        promise59();
+        promise60();
+        slotsAndUndo();
+        Check.end();
+    }
+
+    /** A chamber with a waiting request, a running and a rebutted speech, and a motion that can be voted on. */
+    private static BarberParliament busy() {
+        BarberParliament x = Check.house("house 2 1 3 6 30 1 2; member ada 3 4 5; member ben 2 9 0; member cai 5 15 9;"
+            + " member dov 1 12 3; member eli 4 6 1;");
+        Check.runAll(x, "propose ada 8; propose ben 6; propose ben 6; ask ada for 1; wait 4; vote 1;", 6);
+        Check.runAll(x, "ask dov for 2; wait 4; ask cai against 0; ask ben for 0; wait 2; ask eli for 0;", 6);
+        return x;
+    }
+
+    private static void promise57() {
+        BarberParliament x = new BarberParliament();
+        Check.due("undoCount", x.undoCount(), 0);
+        for (int change = 1; change <= 20; change++) {
+            x.setRanking(change % 4);
+            Check.due("undoCount", x.undoCount(), Math.min(change, 8));
+        }
+        x.minute();
+        x.append('x' << 24, 0, 0, 0, 0);
+        x.truncate(0);
+        x.writeChairs();
+        x.save(0);
+        x.minutesUntilSpeech(0);
+        x.load();
+        Check.due("undoCount after calls that are no changes", x.undoCount(), 8);
+    }
+
+    private static void promise58EveryChange() {
+        BarberParliament x = busy();
+        for (int i = 0; i < 3; i++) {
+            undone(x, "propose", () -> x.propose(0, 3));
+            undone(x, "request", () -> x.request(3, 0, false));
+            undone(x, "rebut", () -> x.rebut(0, 0));
+            undone(x, "advance", () -> x.advance(1));
+            undone(x, "advance to the end of speeches", () -> x.advance(30));
+            undone(x, "vote", () -> x.vote(2) ? 1 : 0);
+            undone(x, "withdraw", () -> x.withdraw(2));
+            undone(x, "sharpen", () -> x.sharpen(0));
+            undone(x, "setRanking", () -> x.setRanking(2));
+            undone(x, "runScript", () -> Check.run(x, "rebut ada 0; wait 5; propose dov 3; withdraw 2; rank contrast; sharpen ada;"));
+        }
+        BarberParliament y = busy();
+        y.setRanking(3);
+        Check.runAll(y, "wait 6; ask dov against 0; ask ada for 0;", 3);
+        String before = Check.state(y);
+        y.advance(1);
+        y.undo();
+        Check.due("the side of the latest speech is undone", Check.state(y), before);
+    }
+
+    private static void undone(BarberParliament x, String change, java.util.function.IntSupplier made) {
+        String before = Check.state(x);
+        int count = x.undoCount();
+        made.getAsInt();
+        Check.yes(change + " changes something", !before.equals(Check.state(x)));
+        Check.due("undoCount after " + change, x.undoCount(), count + 1);
+        Check.due("undo of " + change, x.undo(), count);
+        Check.due("the state after the undo of " + change, Check.state(x), before);
+    }
+
+    private static void promise58Limit() {
+        BarberParliament x = new BarberParliament();
+        Check.badState(x, "undo() of nothing", () -> x.undo());
+        String[] states = new String[13];
+        states[0] = Check.state(x);
+        for (int change = 1; change <= 12; change++) {
+            x.propose(0, change);
+            states[change] = Check.state(x);
+        }
+        for (int left = 7; left >= 0; left--) {
+            Check.due("undo", x.undo(), left);
+            Check.due("the state", Check.state(x), states[4 + left]);
+        }
+        Check.badState(x, "undo() of a forgotten change", () -> x.undo());
+        x.propose(1, 7);
+        x.propose(1, 8);
+        Check.due("undo", x.undo(), 1);
+        Check.due("undo", x.undo(), 0);
+        Check.due("the state", Check.state(x), states[4]);
+        Check.badState(x, "undo() of nothing", () -> x.undo());
+    }
+
+    private static void promise58WhatStays() {
+        BarberParliament x = busy();
+        x.save(0);
+        x.propose(0, 3);
+        x.save(1);
+        x.writeChairs();
+        Check.due("a script with an error", Check.run(x, "wait 61;"), BarberParliament.NONE);
+        Check.write(x, "eli");
+        String output = Check.output(x);
+        x.undo();
+        Check.due("errorCode", x.errorCode(), BarberParliament.OUT_OF_RANGE);
+        Check.due("errorPosition", x.errorPosition(), 5);
+        Check.due("the text buffer", x.findMember(), 4);
+        Check.due("the output", Check.output(x), output);
+        x.undo();
+        x.truncate(0);
+        x.restore(1);
+        Check.due("the slot", x.motionCount(), 4);
+        x.restore(0);
+        Check.due("the other slot", x.motionCount(), 3);
+    }
+
+    private static void promise59() {
+        BarberParliament x = busy();
+        for (int slot : new int[] {-1, 2, 8, Integer.MAX_VALUE, Integer.MIN_VALUE}) {
+            Check.noSuch(x, "save(" + slot + ")", () -> x.save(slot));
+        }
+        int undone = x.undoCount();
+        Check.due("save", x.save(1), 10);
+        Check.due("save is no change", x.undoCount(), undone);
+        String saved = Check.state(x);
+        x.advance(3);
+        Check.due("save", x.save(0), 13);
+        String later = Check.state(x);
+        x.propose(3, 9);
+        x.restore(1);
+        Check.due("the state of slot 1", Check.state(x), saved);
+        x.restore(0);
+        Check.due("the state of slot 0", Check.state(x), later);
+        x.advance(2);
+        String last = Check.state(x);
+        Check.due("save in a filled slot", x.save(1), 15);
+        x.advance(1);
+        x.restore(1);
+        Check.due("the new state of slot 1", Check.state(x), last);
+    }
+
+    private static void promise60() {
+        BarberParliament x = busy();
+        for (int slot : new int[] {-1, 2, 8, Integer.MAX_VALUE, Integer.MIN_VALUE}) {
+            Check.noSuch(x, "restore(" + slot + ")", () -> x.restore(slot));
+        }
+        Check.noElement(x, "restore(0)", () -> x.restore(0));
+        x.setRanking(3);
+        x.save(0);
+        String saved = Check.state(x);
+        Check.noElement(x, "restore(1)", () -> x.restore(1));
+        x.rebut(0, 0);
+        x.advance(40);
+        x.vote(0);
+        x.sharpen(0);
+        x.setRanking(1);
+        Check.write(x, "eli");
+        x.writeChairs();
+        String output = Check.output(x);
+        for (int i = 0; i < 2; i++) {
+            Check.due("restore", x.restore(0), 10);
+            Check.due("the state", Check.state(x), saved);
+            Check.due("undoCount", x.undoCount(), 0);
+            Check.badState(x, "undo() after restore", () -> x.undo());
+            Check.due("the text buffer", x.findMember(), 4);
+            Check.due("the output", Check.output(x), output);
+            x.advance(7);
+            Check.due("undoCount", x.undoCount(), 1);
+        }
+        Check.due("undo of a change after restore", x.undo(), 0);
+        Check.due("the state", Check.state(x), saved);
+    }
+
+    private static void slotsAndUndo() {
+        BarberParliament x = new BarberParliament();
+        x.propose(0, 8);
+        x.save(0);
+        x.undo();
+        Check.due("motionCount after undo", x.motionCount(), 0);
+        Check.due("restore of what was undone", x.restore(0), 0);
+        Check.due("motionCount after restore", x.motionCount(), 1);
+        x.save(0);
+        Check.run(x, "wait 99");
+        Check.due("a failed script leaves the slot", x.restore(0), 0);
+        Check.run(x, "wait 9;");
+        Check.due("a script leaves the slot", x.restore(0), 0);
+        Check.write(x, "house");
+        x.load();
+        Check.due("a failed load leaves the slot", x.restore(0), 0);
+    }
+}
