@@ -1469,7 +1469,7 @@ public final class BarberParliament {
             isStopped = false;
         }
 
-        void readBlock(TextReader reader, Setup setup, int depth) {
+        private void readBlock(TextReader reader, Setup setup, int depth) {
             for (int i = 0; i <= MAX_COMMANDS && reader.isFine() && reader.isAtWord(); i++) {
                 readCommand(reader, setup, depth);
                 reader.takeSign(';');
@@ -1587,18 +1587,22 @@ public final class BarberParliament {
             reader.takeSign(')');
         }
 
-        void runBlock(Chamber chamber, int from, int to, int depth) {
+        private void runBlock(Chamber chamber, int from, int to, int depth) {
             for (int i = from; i < to && !isStopped; i = Math.max(i + 1, after[i])) {
                 if (kind[i] == REPEAT) {
-                    for (int time = 0; time < number[i] && depth < MAX_BRACKETS; time++) {
-                        runBlock(chamber, i + 1, after[i], depth + 1);
-                    }
+                    runRepeat(chamber, i, depth);
                 } else if (executed >= MAX_EXECUTED || refusalOf(chamber, i) != ALLOWED) {
                     isStopped = true;
                 } else {
                     perform(chamber, i);
                     executed++;
                 }
+            }
+        }
+
+        private void runRepeat(Chamber chamber, int i, int depth) {
+            for (int time = 0; time < number[i] && depth < MAX_BRACKETS; time++) {
+                runBlock(chamber, i + 1, after[i], depth + 1);
             }
         }
 

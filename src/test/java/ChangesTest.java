@@ -91,6 +91,9 @@ public final class ChangesTest {
         Check.badState(x, "rebut of a rebutted speech", () -> x.rebut(4, 0));
         Check.due("undoCount", x.undoCount(), 2);
         Check.due("isRebutted", x.isRebutted(0) ? 1 : 0, 1);
+        x.advance(3);
+        Check.badState(x, "rebut of a chair that is free again", () -> x.rebut(3, 0));
+        Check.badState(x, "rebut of a chair that is free again", () -> x.rebut(2, 1));
     }
 
     private static void promise48MirrorsAndSides() {

@@ -102,6 +102,7 @@ public final class LoadTest {
         error(SYNTAX, "|hous 2");
         error(SYNTAX, "|houses 2");
         error(SYNTAX, "|home ");
+        error(SYNTAX, "|mouse 2");
         error(SYNTAX, " |House 2");
         error(SYNTAX, "house|");
         error(SYNTAX, "house  |");
@@ -211,9 +212,11 @@ public final class LoadTest {
         Check.badState(x, "undo() after load", () -> x.undo());
         Check.noElement(x, "restore(0) after load", () -> x.restore(0));
         Check.noElement(x, "restore(1) after load", () -> x.restore(1));
-        x.propose(0, 5);
-        x.propose(0, 5);
-        Check.runAll(x, "rank contrast; ask a for 0; ask b against 0; ask c for 1;", 4);
+        String script = "propose d 7; propose d 7; rank contrast; ask a for 0; ask b against 0; ask c for 1;";
+        Check.runAll(x, script, 6);
+        Check.runAll(y, script, 6);
+        Check.due("the state after a script", Check.state(x), Check.state(y));
+        Check.due("lather of a new motion", x.lather(0), 0);
         Check.due("no speech has started about the new motions", x.firstBy(3), 0);
     }
 }

@@ -11,6 +11,7 @@ public final class MotionsTest {
         promise24Quorum();
         promise25();
         promise26();
+        aFullHouse();
         unknownMotions();
         Check.end();
     }
@@ -167,6 +168,29 @@ public final class MotionsTest {
         BarberParliament x = Check.house("house 1 0 1 0 2 0 0; " + members);
         x.propose(0, position);
         Check.due("decisiveVoter among " + members, x.decisiveVoter(0), due);
+    }
+
+    /** With 12 members and 16 motions no row has a place to spare. */
+    private static void aFullHouse() {
+        StringBuilder setup = new StringBuilder("house 4 5 1 20 30 0 12;");
+        for (char name = 'a'; name <= 'l'; name++) {
+            setup.append("member ").append(name).append(name < 'l' ? " 1 5 3;" : " 9 0 3;");
+        }
+        BarberParliament x = Check.house(setup.toString());
+        Check.runAll(x, "repeat 16 (propose a 4;);", 16);
+        for (int motion = 0; motion < 16; motion++) {
+            Check.due("weightFor", x.weightFor(motion), 20);
+            Check.due("weightAgainst", x.weightAgainst(motion), 0);
+            Check.due("voterCount", x.voterCount(motion), 12);
+            Check.due("decisiveVoter", x.decisiveVoter(motion), BarberParliament.NONE);
+            Check.yes("the mean of 11 times 4 and 1", x.meanLeaning(motion) == 45.0 / 12.0);
+        }
+        Check.runAll(x, "ask l against 15; wait 2;", 2);
+        Check.due("leaning of the last but one", x.leaning(10, 15), 2);
+        Check.due("leaning of the last", x.leaning(11, 15), 1);
+        Check.yes("vote", x.vote(15));
+        Check.due("tips", x.tips(), 12);
+        Check.due("sharpness of the last", x.sharpness(11), 4);
     }
 
     private static void unknownMotions() {

@@ -101,6 +101,8 @@ public final class ScriptTest {
         good("propose ada 0; propose ada 20; withdraw 0;", 3);
         good("wait 1; vote 15;", 1);
         good("withdraw 15;", 0);
+        good("wait 1; ask ada for 15;", 1);
+        good("wait 1; ask ada against 15;", 1);
         good("rebut ada 3;", 0);
         good("repeat 20 (wait 1;);", 20);
     }
@@ -127,6 +129,8 @@ public final class ScriptTest {
         error(SYNTAX, "|house 2 1 3 6 5 2 2;");
         error(SYNTAX, "|waits 1;");
         error(SYNTAX, "|wai 1;");
+        error(SYNTAX, "|note 1;");
+        error(SYNTAX, "wait 1; |tank heaviest;");
         error(SYNTAX, "wait|");
         error(SYNTAX, "wait |;");
         error(SYNTAX, "wait |x;");

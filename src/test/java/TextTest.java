@@ -44,6 +44,10 @@ public final class TextTest {
         Check.badState(x, "append of two bytes to 699", () -> x.append(0, 0, 0x01000001, 0, 0));
         Check.due("append of one byte to 699", x.append(0, 0, 7, 0, 0), 700);
         Check.badState(x, "append of one byte to 700", () -> x.append(1, 0, 0, 0, 0));
+        Check.badState(x, "append of one byte to 700", () -> x.append(0, 1, 0, 0, 0));
+        Check.badState(x, "append of one byte to 700", () -> x.append(0, 0, 0x100, 0, 0));
+        Check.badState(x, "append of one byte to 700", () -> x.append(0, 0, 0, 0x10000, 0));
+        Check.badState(x, "append of one byte to 700", () -> x.append(0, 0, 0, 0, 0x1000000));
         Check.badState(x, "append of twenty bytes to 700", () -> x.append(-1, -1, -1, -1, -1));
         Check.due("append of nothing to 700", x.append(0, 0, 0, 0, 0), 700);
         Check.due("truncate to 0", x.truncate(0), 700);

@@ -8,6 +8,7 @@ public final class UndoTest {
         promise59();
         promise60();
         slotsAndUndo();
+        everyRowIsRestored();
         Check.end();
     }
 
@@ -169,6 +170,22 @@ public final class UndoTest {
         }
         Check.due("undo of a change after restore", x.undo(), 0);
         Check.due("the state", Check.state(x), saved);
+    }
+
+    /** What happens between save and restore differs from what was saved in every row. */
+    private static void everyRowIsRestored() {
+        String setup = "house 2 2 2 20 30 0 0; member a 3 4 5; member b 2 9 4; member c 5 15 9; member d 1 12 8;";
+        String first = "repeat 16 (propose a 4;); ask c for 0; ask b against 1; wait 1; rebut d 0; ask a for 2; ask d against 3;";
+        String second = "repeat 16 (propose b 20;); ask a for 5; ask d for 6; wait 1; ask b for 7; ask c for 8;";
+        BarberParliament x = Check.house(setup);
+        Check.runAll(x, first, 22);
+        String state = Check.state(x);
+        x.save(0);
+        x.undo();
+        Check.runAll(x, second, 21);
+        Check.yes("another state", !state.equals(Check.state(x)));
+        x.restore(0);
+        Check.due("the state after restore", Check.state(x), state);
     }
 
     private static void slotsAndUndo() {
