@@ -59,6 +59,10 @@ public final class StatisticsTest {
         BarberParliament y = Check.house("house 1 0 1 0 2 0 0; member a 3 5 1; member b 3 15 1;");
         y.propose(0, 10);
         mean(y, 0, 0.0);
+        BarberParliament z = Check.house("house 1 0 1 0 2 0 0; member a 1 5 1;");
+        z.propose(0, 6);
+        mean(z, 0, 4.0);
+        Check.due("the bits of the whole weight of 1", Float.floatToRawIntBits(z.weightShare(0)), Float.floatToRawIntBits(1f));
     }
 
     private static void mean(BarberParliament x, int motion, double due) {

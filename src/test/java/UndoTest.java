@@ -180,12 +180,21 @@ public final class UndoTest {
         BarberParliament x = Check.house(setup);
         Check.runAll(x, first, 22);
         String state = Check.state(x);
+        String written = written(x);
         x.save(0);
         x.undo();
         Check.runAll(x, second, 21);
         Check.yes("another state", !state.equals(Check.state(x)));
         x.restore(0);
         Check.due("the state after restore", Check.state(x), state);
+        Check.due("the output after restore", written(x), written);
+    }
+
+    private static String written(BarberParliament x) {
+        x.writeChairs();
+        String chairs = Check.output(x);
+        x.writeRequests();
+        return chairs + " | " + Check.output(x);
     }
 
     private static void slotsAndUndo() {
