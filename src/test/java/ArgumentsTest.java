@@ -11,9 +11,9 @@ public final class ArgumentsTest {
 
     public static void main(String[] args) throws IllegalAccessException {
         Method[] methods = methods();
-        for (int run = 0; run < 60; run++) {
+        for (int run = 0; run < 400; run++) {
             BarberParliament x = run % 2 == 0 ? new BarberParliament() : fullHouse();
-            for (int call = 0; call < 3000; call++) {
+            for (int call = 0; call < 450; call++) {
                 Method method = methods[below(methods.length)];
                 call(x, method, arguments(method));
             }

@@ -159,9 +159,9 @@ public final class ChairsTest {
     }
 
     private static void unknownChairs() {
-        BarberParliament x = new BarberParliament();
-        Check.runAll(x, "propose ada 8; ask cai for 0; ask ben for 0; wait 1;", 4);
         for (int chair : NO_CHAIRS) {
+            BarberParliament x = new BarberParliament();
+            Check.runAll(x, "propose ada 8; ask cai for 0; ask ben for 0; wait 1;", 4);
             Check.noSuch(x, "speaker(" + chair + ")", () -> x.speaker(chair));
             Check.noSuch(x, "speechMotion(" + chair + ")", () -> x.speechMotion(chair));
             Check.noSuch(x, "remainingTime(" + chair + ")", () -> x.remainingTime(chair));

@@ -4,6 +4,7 @@ import java.util.function.LongSupplier;
 final class Check {
     private static int checks = 0;
     private static int wrong = 0;
+    private static String sentence = "";
 
     private Check() {
     }
@@ -30,17 +31,34 @@ final class Check {
         due(call, got ? 1 : 0, 0);
     }
 
-    /** The call must throw exactly this exception and change nothing. */
+    /** A test of one sentence of the document. What is wrong in it is reported with the sentence. */
+    static void holds(String tested, Runnable test) {
+        sentence = tested;
+        try {
+            test.run();
+        } catch (RuntimeException e) {
+            report("threw " + e + " in " + e.getStackTrace()[0]);
+        }
+        sentence = "";
+    }
+
+    /**
+     * The call must throw exactly this exception and change nothing. A few calls must be enough to see that, as an
+     * object answers 512 of them; RefusalsTest looks at everything.
+     */
     static void refused(BarberParliament x, String call, Class<?> want, LongSupplier made) {
-        String before = all(x);
-        String thrown = "nothing";
+        String before = brief(x);
+        due(call + " throws", thrownBy(made), want.getName());
+        due("the state after the refused " + call, brief(x), before);
+    }
+
+    static String thrownBy(LongSupplier made) {
         try {
             made.getAsLong();
         } catch (RuntimeException e) {
-            thrown = e.getClass().getName();
+            return e.getClass().getName();
         }
-        due(call + " throws", thrown, want.getName());
-        due("the state after the refused " + call, all(x), before);
+        return "nothing";
     }
 
     static void noSuch(BarberParliament x, String call, LongSupplier made) {
@@ -62,7 +80,7 @@ final class Check {
     private static void report(String line) {
         wrong++;
         if (wrong <= 30) {
-            System.out.println(line);
+            System.out.println(sentence.isEmpty() ? line : "[" + sentence + "] " + line);
         }
     }
 
@@ -112,14 +130,28 @@ final class Check {
 
     static String output(BarberParliament x) {
         StringBuilder text = new StringBuilder();
-        for (int i = 0; x.outputByte(i) != BarberParliament.NONE; i++) {
-            text.append((char) x.outputByte(i));
+        int sign = x.outputByte(0);
+        while (sign != BarberParliament.NONE) {
+            text.append((char) sign);
+            sign = x.outputByte(text.length());
         }
         return text.toString();
     }
 
-    /** Everything that undo and restore bring back. */
+    /** What tells two states apart in few calls. */
+    static String brief(BarberParliament x) {
+        StringBuilder text = new StringBuilder();
+        int[] told = {x.minute(), x.ranking(), x.motionCount(), x.requestCount(), x.freeMirrors(), x.tips(), x.voteCount(),
+            x.rebuttalCount(), x.undoCount(), x.errorCode(), x.errorPosition(), x.append(0, 0, 0, 0, 0), x.speaker(0), x.purse(0)};
+        for (int number : told) {
+            text.append(number).append(' ');
+        }
+        return text.toString();
+    }
+
+    /** Everything that undo and restore bring back. Of a large house that takes most of the 512 calls. */
     static String state(BarberParliament x) {
+        int motions = x.motionCount();
         StringBuilder text = new StringBuilder();
         text.append("minute ").append(x.minute()).append(" ranking ").append(x.ranking());
         text.append(" mirrors ").append(x.freeMirrors()).append(" requests ").append(x.requestCount());
@@ -128,24 +160,24 @@ final class Check {
         for (int ranking = 0; ranking < 4; ranking++) {
             text.append(" first ").append(x.firstBy(ranking));
         }
-        for (int member = 0; member < x.memberCount(); member++) {
+        for (int member = x.memberCount() - 1; member >= 0; member--) {
             text.append("; member ").append(x.weight(member)).append(' ').append(x.purse(member));
             text.append(' ').append(x.sharpness(member)).append(' ').append(x.speechesOf(member));
             text.append(' ').append(x.chairOf(member)).append(' ').append(x.placeInList(member));
             text.append(' ').append(x.minutesUntilSpeech(member));
-            for (int motion = 0; motion < x.motionCount(); motion++) {
+            for (int motion = 0; motion < motions; motion++) {
                 text.append(" leaning ").append(x.leaning(member, motion));
             }
         }
-        for (int motion = 0; motion < x.motionCount(); motion++) {
+        for (int motion = 0; motion < motions; motion++) {
             text.append("; motion ").append(x.proposer(motion)).append(' ').append(x.motionState(motion));
             text.append(' ').append(x.lather(motion)).append(' ').append(x.obstacle(motion));
             text.append(' ').append(x.decisiveVoter(motion)).append(' ').append(x.minutesUntilVote(motion));
         }
-        for (int chair = 0; chair < x.chairCount(); chair++) {
-            text.append("; chair ").append(x.speaker(chair)).append(' ').append(x.remainingTime(chair));
-            text.append(' ').append(x.isRebutted(chair));
-            text.append(' ').append(x.speaker(chair) < 0 ? -1 : x.speechMotion(chair));
+        for (int chair = x.chairCount() - 1; chair >= 0; chair--) {
+            int speaker = x.speaker(chair);
+            text.append("; chair ").append(speaker).append(' ').append(x.remainingTime(chair));
+            text.append(' ').append(x.isRebutted(chair)).append(' ').append(speaker < 0 ? -1 : x.speechMotion(chair));
         }
         return text.toString();
     }

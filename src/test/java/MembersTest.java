@@ -114,9 +114,9 @@ public final class MembersTest {
     }
 
     private static void unknownMembers() {
-        BarberParliament x = new BarberParliament();
-        x.propose(0, 8);
         for (int member : NO_MEMBERS) {
+            BarberParliament x = new BarberParliament();
+            x.propose(0, 8);
             Check.noSuch(x, "weight(" + member + ")", () -> x.weight(member));
             Check.noSuch(x, "purse(" + member + ")", () -> x.purse(member));
             Check.noSuch(x, "sharpness(" + member + ")", () -> x.sharpness(member));

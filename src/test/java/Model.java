@@ -730,7 +730,7 @@ final class Model {
             Talk first = now.first(ranking);
             s.append(" first ").append(first == null ? -1 : first.member);
         }
-        for (int member = 0; member < now.house.size(); member++) {
+        for (int member = now.house.size() - 1; member >= 0; member--) {
             s.append("; member ").append(now.house.weight(member)).append(' ').append(now.purse[member]);
             s.append(' ').append(now.sharpness[member]).append(' ').append(now.speeches[member]);
             s.append(' ').append(chairOf(member)).append(' ').append(placeInList(member));
@@ -745,7 +745,8 @@ final class Model {
             s.append(' ').append(now.obstacle(motion)).append(' ').append(now.decisive(motion));
             s.append(' ').append(untilVote(motion));
         }
-        for (Talk t : now.chairs) {
+        for (int c = now.chairs.length - 1; c >= 0; c--) {
+            Talk t = now.chairs[c];
             s.append("; chair ").append(t == null ? "-1 0 false -1" : t.member + " " + t.remaining + " " + t.isRebutted + " " + t.motion);
         }
         return s + "; undo " + past.size() + " error " + errorCode + " " + errorPosition + " text " + text.length() + " output " + output;

@@ -194,9 +194,9 @@ public final class MotionsTest {
     }
 
     private static void unknownMotions() {
-        BarberParliament x = new BarberParliament();
-        x.propose(0, 8);
         for (int motion : NO_MOTIONS) {
+            BarberParliament x = new BarberParliament();
+            x.propose(0, 8);
             Check.noSuch(x, "leaning(0, " + motion + ")", () -> x.leaning(0, motion));
             Check.noSuch(x, "proposer(" + motion + ")", () -> x.proposer(motion));
             Check.noSuch(x, "motionState(" + motion + ")", () -> x.motionState(motion));

@@ -56,10 +56,10 @@ public final class NewObjectTest {
             + " ask eli for 0; wait 6; propose cai 0;";
         Check.runAll(fresh, script, 10);
         Check.runAll(loaded, script, 10);
-        for (int minute = 0; minute < 12; minute++) {
+        for (int minute = 0; minute < 12; minute += 4) {
             Check.due("the state " + minute + " minutes later", Check.state(fresh), Check.state(loaded));
-            fresh.advance(1);
-            loaded.advance(1);
+            fresh.advance(4);
+            loaded.advance(4);
         }
     }
 

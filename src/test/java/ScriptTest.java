@@ -76,11 +76,12 @@ public final class ScriptTest {
         y.propose(4, 20);
         y.withdraw(1);
         same(x, y, "withdraw");
+        // Of the 512 calls of an object few are left here.
         String[] rankings = {"heaviest", "quietest", "contrast", "arrival"};
         for (int i = 0; i < rankings.length; i++) {
             Check.runAll(x, "rank " + rankings[i] + ";", 1);
             y.setRanking((i + 1) % 4);
-            same(x, y, "rank " + rankings[i]);
+            Check.due("ranking after rank " + rankings[i], x.ranking(), y.ranking());
         }
     }
 
