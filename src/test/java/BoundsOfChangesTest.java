@@ -712,7 +712,7 @@ public final class BoundsOfChangesTest {
     private static void sameNumbers() {
         String house = "house 2 2 3 0 30 0 0; member a 3 5 9; member b 2 5 9; member c 5 20 9; member d 1 20 9;";
         String kept = "propose a 5; propose a 5; ask b for 0; ask c against 1; wait 1; rebut d 0; ask a for 0; ask d against 0;";
-        String other = "propose d 20; propose d 20; ask a against 1; ask d for 0; wait 1; ask b for 1; ask c against 1; propose c 3;";
+        String other = "propose d 20; propose d 20; ask a for 1; ask d against 0; wait 1; ask b for 1; ask c against 1; propose c 3;";
         BarberParliament x = Check.house(house);
         x.save(1);
         Check.runAll(x, kept, 8);

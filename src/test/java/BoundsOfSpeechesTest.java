@@ -22,6 +22,7 @@ public final class BoundsOfSpeechesTest {
         Check.holds(TERMS + "positions that differ by at most the reach", BoundsOfSpeechesTest::reach);
         Check.holds(TERMS + "the least and the greatest reach", BoundsOfSpeechesTest::extremeReach);
         Check.holds(TERMS + "each member other than the speaker", BoundsOfSpeechesTest::notTheSpeaker);
+        Check.holds(TERMS + "by 2 towards the side of the speech, or by 1 if the speech was rebutted", BoundsOfSpeechesTest::changesOfLeanings);
         Check.holds(TERMS + "a leaning stays at most 20", BoundsOfSpeechesTest::mostLeaning);
         Check.holds(TERMS + "a leaning stays at least -20", BoundsOfSpeechesTest::leastLeaning);
         Check.holds(TERMS + "the lather level increases by 1, but not above 9", BoundsOfSpeechesTest::latherNotAboveNine);
@@ -262,6 +263,21 @@ public final class BoundsOfSpeechesTest {
         BarberParliament y = Check.house("house 1 1 1 20 30 0 0; member a 1 10 0; member s 1 10 0; member b 1 10 0;");
         Check.runAll(y, "propose a 10; ask s against 0; wait 2;", 3);
         Check.due("a speaker among others at the same place", Bound.leanings(y, 0), "3 5 3");
+    }
+
+    /** A leaning of 0, one on each side of it, and those that pass it. */
+    private static void changesOfLeanings() {
+        String[] scripts = {"ask s for 0; wait 2;", "ask s for 0; wait 1; rebut d 0; wait 1;", "ask s against 0; wait 2;",
+            "ask s against 0; wait 1; rebut a 0; wait 1;"};
+        String[] due = {"5 3 2 1 0", "5 2 1 0 -1", "5 -1 -2 -3 -4", "5 0 -1 -2 -3"};
+        for (int i = 0; i < scripts.length; i++) {
+            BarberParliament x = Check.house("house 1 1 1 20 30 0 0; member s 1 0 0; member a 1 4 0; member b 1 5 0; member c 1 6 0;"
+                + "member d 1 7 0;");
+            x.propose(0, 0);
+            Check.due("leanings before", Bound.leanings(x, 0), "5 1 0 -1 -2");
+            Check.yes("runScript", Check.run(x, scripts[i]) >= 2);
+            Check.due("leanings after " + scripts[i], Bound.leanings(x, 0), due[i]);
+        }
     }
 
     private static void mostLeaning() {
